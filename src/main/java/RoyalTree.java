@@ -27,7 +27,7 @@ public final class RoyalTree {
     private static final int BITS_OF_A_HAND = 4;
     private static final int HAND_MASK = 15;
 
-    // No float or double is further from 1 than that many halvings or doublings.
+    // No double is further from 1 than that many halvings or doublings.
     private static final int MOST_SCALINGS = 1100;
 
     private final Hands hands;
@@ -182,7 +182,7 @@ public final class RoyalTree {
         needRange(row, 0, KINDS - 1);
         needRange(land, 0, LANDS - 1);
         needRange(day, 0, LAST_DAY);
-        needRange(text, 0, Integer.MAX_VALUE);
+        needText(text);
         needRange(amount, 1, 1000000);
         needRoom(uses.count, MOST_USES);
         changes++;
@@ -195,7 +195,7 @@ public final class RoyalTree {
     public int nameOf(int work, int text)
             throws IndexOutOfBoundsException, IllegalArgumentException, IllegalStateException {
         needNumber(work, works.count);
-        needRange(text, 0, Integer.MAX_VALUE);
+        needText(text);
         needRoom(works.titles[work], MOST_TITLES);
         changes++;
         works.addTitle(work, text);
@@ -392,6 +392,12 @@ public final class RoyalTree {
         }
     }
 
+    private static void needText(int text) {
+        if (text < 0) {
+            throw new IllegalArgumentException("a text is not less than 0");
+        }
+    }
+
     private static void needRoom(int count, int most) {
         if (count >= most) {
             throw new IllegalStateException("there is no room for more");
@@ -475,7 +481,7 @@ public final class RoyalTree {
         return periods == 0 ? 0 : accountsAtEnd[periods - 1][hand];
     }
 
-    /** The bits of a float that is not negative and not subnormal, by its sign, exponent and fraction. */
+    /** The bits of a float from 0 to 1 that is not subnormal, by its exponent and fraction. */
     private static int bitsOfFloat(float value) {
         if (value <= 0f) {
             return 0;
@@ -485,10 +491,6 @@ public final class RoyalTree {
         for (int i = 0; i < MOST_SCALINGS && fraction < 1f; i++) {
             fraction = fraction * 2f;
             exponent--;
-        }
-        for (int i = 0; i < MOST_SCALINGS && fraction >= 2f; i++) {
-            fraction = fraction / 2f;
-            exponent++;
         }
         return (exponent << 23) | (int) ((fraction - 1f) * 8388608f);
     }
@@ -564,8 +566,9 @@ public final class RoyalTree {
             isReached[outer] = true;
             reached[0] = outer;
             int many = 1;
-            for (int i = 0; i < many; i++) {
-                for (int inner = 0; inner < count; inner++) {
+            // Each work is reached once at the most, so that many stays up to count.
+            for (int i = 0; i < many && i < count; i++) {
+                for (int inner = 0; inner < count && many < MOST_WORKS; inner++) {
                     if (part[reached[i]][inner] > 0 && !isReached[inner]) {
                         isReached[inner] = true;
                         reached[many] = inner;

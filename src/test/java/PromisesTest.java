@@ -296,6 +296,9 @@ public final class PromisesTest {
         is("5: not round from another one", x.setPart(19, 1, 1), 1);
         is("5: the row is cut", x.setPart(10, 11, 0), 0);
         is("5: no longer round", x.setPart(19, 0, 1), 2);
+        is("5: the lowest work counts in the sum", x.setPart(19, 0, 7), 8);
+        CHECK.refused("5: round by the lowest work", UNSUPPORTED, () -> x.setPart(2, 19, 1));
+        CHECK.refused("5: round by a part of one", UNSUPPORTED, () -> x.setPart(1, 19, 1));
         refused("5: no such work", INDEX, y -> y.setPart(3, 0, 101));
         refused("5: no such inner work", INDEX, y -> y.setPart(0, 3, 1));
         refused("5: work -1", INDEX, y -> y.setPart(-1, 0, 1));
@@ -332,6 +335,14 @@ public final class PromisesTest {
         is("5: parts count as they are now", x.share(use, 0), 68);
         is("5: and its part is gone", x.share(use, 1), 0);
         is("5: one way is left", x.share(use, 3), 16);
+        x.setPart(3, 0, 0);
+        x.setPart(0, 2, 0);
+        x.setPart(2, 0, 1);
+        x.nameOf(2, words(2));
+        int outer = x.use('r', 0, words(2), 199, 0);
+        is("5: the lowest work within, a part of one coin", x.share(outer, 0), 1);
+        is("5: half of the rest, ahead of a part of all", x.share(outer, 3), 99);
+        is("5: the rest of the rest", x.share(outer, 2), 99);
     }
 
     private static void contractsTold() {
@@ -379,6 +390,9 @@ public final class PromisesTest {
         x.assign(2, 0, 0, 100, 0, 999);
         is("6: not back to where it came from", x.gets(use, 0), 25);
         is("6: nor further", x.gets(use, 2), 30);
+        x.assign(2, 1, 0, 100, 0, 999);
+        is("6: not back to a hand in between", x.gets(use, 2), 5);
+        is("6: but where this money was not", x.gets(use, 1), 45 + 25);
         RoyalTree two = withOneWork(2);
         two.assign(0, 1, 0, 33, 0, 999);
         two.assign(0, 1, 0, 33, 0, 999);
@@ -465,8 +479,16 @@ public final class PromisesTest {
         worse.period();
         worse.claim(0, 1, 30, 21);
         is("9: a later claim takes nothing", worse.decide(0, true), false);
-        RoyalTree less = taxedByUses();
+        RoyalTree less = taxedByUses(0, 1);
         is("9: a hand may have less, as taxes are cut", less.decide(0, false), true);
+        is("21: withheld of 2", less.tax(1), 1);
+        is("9: and so may the lowest one", taxedByUses(1, 0).decide(0, false), true);
+        is("9: it need not", taxedByUses(1, 0).decide(0, true), false);
+        RoyalTree owing = withOneWork(2);
+        owing.assign(0, 1, 0, 1, 0, 0);
+        owing.advance(0, 500);
+        owing.claim(0, 1, 1, 0);
+        is("9: less than nothing, but no less than before", owing.decide(0, true), false);
         refused("9: no such claim", INDEX, y -> y.decide(1, true));
         refused("9: claim -1", INDEX, y -> y.decide(-1, false));
         refused("9: decided", y -> {
@@ -480,28 +502,28 @@ public final class PromisesTest {
     }
 
     /**
-     * Hand 1 (tax 50) is owed 2 by hand 0, who keeps 1 by each of two uses of work 1, so that hand 1 gets 1 and 1 and
+     * A hand with tax 50 is owed 2 by a debtor, who keeps 1 by each of two uses of work 1, so that it gets 1 and 1 and
      * pays no tax; once a claim on work 0 falls, whose use was told first and brings 2, it gets 2 at once and pays 1.
      */
-    private static RoyalTree taxedByUses() {
+    private static RoyalTree taxedByUses(int debtor, int taxed) {
         RoyalTree x = new RoyalTree();
-        x.addHand(false, 0);
-        x.addHand(false, 50);
+        x.addHand(false, taxed == 0 ? 50 : 0);
+        x.addHand(false, taxed == 0 ? 0 : 50);
         for (int work = 0; work < 2; work++) {
             x.addWork(1000);
-            x.setShare(work, 0, 100, 0);
+            x.setShare(work, debtor, 100, 0);
             x.nameOf(work, words(work + 1));
         }
-        x.assign(0, 1, 2, 1, 0, 0);
+        x.assign(debtor, taxed, 2, 1, 0, 0);
         x.advance(0, 2);
         x.tariff('r', 0, 1);
         x.use('r', 0, words(1), 2, 5);
         x.use('r', 0, words(2), 1, 5);
         x.use('r', 0, words(2), 1, 5);
-        x.claim(0, 1, 1, 0);
+        x.claim(0, taxed, 1, 0);
         x.period();
-        is("21: nothing is withheld of 1", x.tax(1), 0);
-        is("20: what was advanced and paid back", x.account(1), 0);
+        is("21: nothing is withheld of 1", x.tax(taxed), 0);
+        is("20: what was advanced and paid back", x.account(taxed), 0);
         return x;
     }
 
@@ -668,6 +690,9 @@ public final class PromisesTest {
         x.assign(0, 2, 0, 100, 0, 999);
         is("16: ahead of contracts", x.share(use, 0), 65);
         is("16: what comes by contracts does not count", x.share(use, 2), 0);
+        x.setShare(0, 0, 34, 5);
+        x.setShare(0, 0, 1, 4);
+        is("16: the latest day counts, not the last setting", x.share(use, 0), 67);
         refused("16: no such use", INDEX, y -> y.share(3, 0));
         refused("16: use -1", INDEX, y -> y.share(-1, 0));
         refused("16: no such hand", INDEX, y -> y.share(0, 4));
@@ -706,6 +731,11 @@ public final class PromisesTest {
         is("18: what the society hands on is not open", x.open(use), 18 + 14);
         int unknown = x.use('r', 0, words(50), 7, 10);
         is("18: a work that is not known", x.open(unknown), 70);
+        x.setShare(0, 1, 10, 0);
+        is("17: a hundred together", x.held(use), 0);
+        x.setShare(0, 0, 91, 0);
+        is("17: more than a hundred together", x.held(use), 60);
+        is("17: on a day from which nobody has rights", x.held(ended), 0);
         refused("17: no such use", INDEX, y -> y.held(3));
         refused("17: use -1", INDEX, y -> y.held(-1));
         refused("18: no such use", INDEX, y -> y.open(3));
@@ -926,6 +956,8 @@ public final class PromisesTest {
         }
         int use = radio(x, 10, 0);
         is("26: thirteen hands", x.chain(use, 3), 13);
+        x.tariff('r', 0, 1);
+        is("26: of a single coin too", x.chain(radio(x, 1, 0), 3), 13);
         for (int i = 0; i < 13; i++) {
             is("27: each of them", x.chainAt(use, 3, i), 15 - i);
         }
@@ -958,6 +990,7 @@ public final class PromisesTest {
         x.addWork(1000);
         x.setShare(0, 0, 100, 0);
         is("29: a hundred is right", x.isDisputed(0, 999), false);
+        is("29: on the first day too", x.isDisputed(0, 0), false);
         x.setShare(0, 1, 1, 20);
         is("29: ahead of the day", x.isDisputed(0, 19), false);
         is("29: more than a hundred, with or without rights", x.isDisputed(0, 20), true);
@@ -1007,6 +1040,12 @@ public final class PromisesTest {
             known += isKnown ? 1 : 0;
             is("34: known of " + (i + 1), x.knownBits(), Float.floatToIntBits((float) known / (float) (i + 1)));
             is("35: mean of " + (i + 1), x.meanBits(), Double.doubleToLongBits((double) sum / (double) (i + 1)));
+        }
+        RoyalTree little = withOneWork(1);
+        little.use('s', 0, words(40), 100, 0);
+        for (int i = 1; i <= 59; i++) {
+            is("35: one coin of " + i + " uses", little.meanBits(), Double.doubleToLongBits(1.0 / i));
+            little.use('s', 0, words(40), 99, 0);
         }
         RoyalTree all = withOneWork(1);
         radio(all, 1, 0);
