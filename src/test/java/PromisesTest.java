@@ -297,6 +297,7 @@ public final class PromisesTest {
         is("5: the row is cut", x.setPart(10, 11, 0), 0);
         is("5: no longer round", x.setPart(19, 0, 1), 2);
         is("5: the lowest work counts in the sum", x.setPart(19, 0, 7), 8);
+        is("5: room for another one", x.setPart(2, 3, 0), 0);
         CHECK.refused("5: round by the lowest work", UNSUPPORTED, () -> x.setPart(2, 19, 1));
         CHECK.refused("5: round by a part of one", UNSUPPORTED, () -> x.setPart(1, 19, 1));
         refused("5: no such work", INDEX, y -> y.setPart(3, 0, 101));
@@ -783,8 +784,8 @@ public final class PromisesTest {
         is("21: cut for each use", x.tax(0), 2);
         is("20: both uses", x.account(0), 8);
         x.setShare(0, 0, 60, 0);
-        is("20: as they would be shared now", x.account(0), 6);
         is("21: as they would be shared now", x.tax(0), 0);
+        is("20: as they would be shared now", x.account(0), 6);
         refused("20: no such hand", INDEX, y -> y.account(4));
         refused("20: hand -1", INDEX, y -> y.account(-1));
         refused("21: no such hand", INDEX, y -> y.tax(4));
