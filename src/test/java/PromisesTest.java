@@ -60,17 +60,17 @@ public final class PromisesTest {
     }
 
     /** A call is refused on what the set-up makes, and all answers afterwards are those without the call. */
-    private static void refused(String what, Consumer<RoyalTree> setUp, Class<? extends RuntimeException> kind,
-            Consumer<RoyalTree> call) {
-        RoyalTree untouched = new RoyalTree();
-        RoyalTree tried = new RoyalTree();
+    private static void refused(String what, Consumer<House> setUp, Class<? extends RuntimeException> kind,
+            Consumer<House> call) {
+        House untouched = new House();
+        House tried = new House();
         setUp.accept(untouched);
         setUp.accept(tried);
         CHECK.refused(what, kind, () -> call.accept(tried));
         CHECK.is(what + " changes nothing", answersOf(tried), answersOf(untouched));
     }
 
-    private static void refused(String what, Class<? extends RuntimeException> kind, Consumer<RoyalTree> call) {
+    private static void refused(String what, Class<? extends RuntimeException> kind, Consumer<House> call) {
         refused(what, PromisesTest::fillHouse, kind, call);
     }
 
@@ -83,7 +83,7 @@ public final class PromisesTest {
     }
 
     /** Some three hundred answers of an object, those of calls that count on at the end. */
-    private static String answersOf(RoyalTree x) {
+    private static String answersOf(House x) {
         StringBuilder all = new StringBuilder();
         all.append(answer(x::works)).append(answer(x::uses)).append(answer(x::pot)).append(answer(x::holds));
         all.append(answer(x::knownBits)).append(answer(x::meanBits)).append(answer(x::isSound));
@@ -112,7 +112,7 @@ public final class PromisesTest {
         return all.toString();
     }
 
-    private static String answersOfUse(RoyalTree x, int use) {
+    private static String answersOfUse(House x, int use) {
         StringBuilder all = new StringBuilder("use ");
         all.append(answer(() -> x.matched(use))).append(answer(() -> x.gross(use))).append(answer(() -> x.held(use)));
         all.append(answer(() -> x.open(use))).append(answer(() -> x.paidIn(use)));
@@ -125,7 +125,7 @@ public final class PromisesTest {
         return all.toString();
     }
 
-    private static String answersOfWork(RoyalTree x, int work) {
+    private static String answersOfWork(House x, int work) {
         StringBuilder all = new StringBuilder("work ");
         for (int day : new int[] {0, 5, 10, 999}) {
             all.append(answer(() -> x.isDisputed(work, day)));
@@ -138,7 +138,7 @@ public final class PromisesTest {
     }
 
     /** Four hands (3 is a society), three works, a contract with an advance, an open claim, three uses, one period. */
-    private static void fillHouse(RoyalTree x) {
+    private static void fillHouse(House x) {
         x.addHand(false, 10);
         x.addHand(false, 0);
         x.addHand(false, 50);
@@ -163,8 +163,8 @@ public final class PromisesTest {
         x.use('s', 2, words(9, 9), 5000, 10);
     }
 
-    private static RoyalTree filled() {
-        RoyalTree x = new RoyalTree();
+    private static House filled() {
+        House x = new House();
         fillHouse(x);
         return x;
     }
@@ -178,8 +178,8 @@ public final class PromisesTest {
         return text;
     }
 
-    private static RoyalTree withHands(int many) {
-        RoyalTree x = new RoyalTree();
+    private static House withHands(int many) {
+        House x = new House();
         for (int i = 0; i < many; i++) {
             x.addHand(false, 0);
         }
@@ -187,22 +187,22 @@ public final class PromisesTest {
     }
 
     /** Hands without taxes and one work, named words(1), of which hand 0 has all. */
-    private static RoyalTree withOneWork(int hands) {
-        RoyalTree x = withHands(hands);
+    private static House withOneWork(int hands) {
+        House x = withHands(hands);
         x.addWork(1000);
         x.setShare(0, 0, 100, 0);
         x.nameOf(0, words(1));
         return x;
     }
 
-    private static int radio(RoyalTree x, int minutes, int day) {
+    private static int radio(House x, int minutes, int day) {
         return x.use('r', 0, words(1), minutes, day);
     }
 
     // ---- promises 1 to 7
 
     private static void newObject() {
-        RoyalTree x = new RoyalTree();
+        House x = new House();
         is("1: no works", x.works(), 0);
         is("1: no uses", x.uses(), 0);
         is("1: an empty pot", x.pot(), 0);
@@ -214,12 +214,12 @@ public final class PromisesTest {
         CHECK.refused("1: no period", INDEX, () -> x.statement(0, 0));
         CHECK.refused("1: no contract", INDEX, () -> x.notRecouped(0));
         CHECK.refused("1: no claim", INDEX, () -> x.decide(0, true));
-        RoyalTree other = filled();
+        House other = filled();
         is("1: objects are apart", x.works() + x.uses() + other.works(), 3);
     }
 
     private static void hands() {
-        RoyalTree x = new RoyalTree();
+        House x = new House();
         for (int i = 0; i < 16; i++) {
             is("2: the number of a hand", x.addHand(i % 2 == 0, i == 0 ? 0 : 50), i);
         }
@@ -227,7 +227,7 @@ public final class PromisesTest {
         refused("2: tax -1", ARGUMENT, y -> y.addHand(false, -1));
         refused("2: tax 51", ARGUMENT, y -> y.addHand(true, 51));
         refused("2: tax at the least int", ARGUMENT, y -> y.addHand(true, MIN));
-        Consumer<RoyalTree> full = y -> {
+        Consumer<House> full = y -> {
             for (int i = 0; i < 16; i++) {
                 y.addHand(false, 0);
             }
@@ -237,7 +237,7 @@ public final class PromisesTest {
     }
 
     private static void works() {
-        RoyalTree x = new RoyalTree();
+        House x = new House();
         for (int i = 0; i < 20; i++) {
             is("3: the number of a work", x.addWork(i == 0 ? 1 : 1000), i);
             is("30: the number of works", x.works(), i + 1);
@@ -246,7 +246,7 @@ public final class PromisesTest {
         is("3: no shares", x.shareOn(19, 0, 999), 0);
         refused("3: day 0", ARGUMENT, y -> y.addWork(0));
         refused("3: day 1001", ARGUMENT, y -> y.addWork(1001));
-        Consumer<RoyalTree> full = y -> {
+        Consumer<House> full = y -> {
             for (int i = 0; i < 20; i++) {
                 y.addWork(1000);
             }
@@ -256,7 +256,7 @@ public final class PromisesTest {
     }
 
     private static void sharesSet() {
-        RoyalTree x = withHands(3);
+        House x = withHands(3);
         x.addWork(1000);
         x.addWork(1000);
         is("4: the first share", x.setShare(0, 0, 60, 10), 60);
@@ -279,7 +279,7 @@ public final class PromisesTest {
     }
 
     private static void partsSet() {
-        RoyalTree x = new RoyalTree();
+        House x = new House();
         for (int i = 0; i < 20; i++) {
             x.addWork(1000);
         }
@@ -316,7 +316,7 @@ public final class PromisesTest {
     }
 
     private static void partsShareOut() {
-        RoyalTree x = withHands(4);
+        House x = withHands(4);
         for (int i = 0; i < 4; i++) {
             x.addWork(1000);
             x.setShare(i, i, 100, 0);
@@ -347,7 +347,7 @@ public final class PromisesTest {
     }
 
     private static void contractsTold() {
-        RoyalTree x = withHands(3);
+        House x = withHands(3);
         for (int i = 1; i <= 12; i++) {
             is("6: the number of contracts", x.assign(i % 3, (i + 1) % 3, i % 3, i == 1 ? 1 : 100, 0, i == 2 ? 0 : 999), i);
         }
@@ -363,7 +363,7 @@ public final class PromisesTest {
         refused("6: till day 1000", ARGUMENT, y -> y.assign(0, 1, 0, 1, 0, 1000));
         refused("6: the last day ahead of the first one", ARGUMENT, y -> y.assign(0, 1, 0, 1, 6, 5));
         refused("6: the same hand", ARGUMENT, y -> y.assign(1, 1, 0, 1, 0, 5));
-        Consumer<RoyalTree> full = y -> {
+        Consumer<House> full = y -> {
             fillHouse(y);
             for (int i = 1; i < 12; i++) {
                 y.assign(1, 2, 2, 5, 0, 999);
@@ -374,7 +374,7 @@ public final class PromisesTest {
     }
 
     private static void contractsHandOn() {
-        RoyalTree x = withOneWork(3);
+        House x = withOneWork(3);
         x.assign(0, 1, 0, 50, 10, 20);
         is("6: ahead of the first day", x.gets(radio(x, 10, 9), 1), 0);
         is("6: on the first day", x.gets(radio(x, 10, 10), 1), 50);
@@ -394,7 +394,7 @@ public final class PromisesTest {
         x.assign(2, 1, 0, 100, 0, 999);
         is("6: not back to a hand in between", x.gets(use, 2), 5);
         is("6: but where this money was not", x.gets(use, 1), 45 + 25);
-        RoyalTree two = withOneWork(2);
+        House two = withOneWork(2);
         two.assign(0, 1, 0, 33, 0, 999);
         two.assign(0, 1, 0, 33, 0, 999);
         two.tariff('r', 0, 1);
@@ -404,7 +404,7 @@ public final class PromisesTest {
     }
 
     private static void advances() {
-        RoyalTree x = withOneWork(3);
+        House x = withOneWork(3);
         x.assign(0, 1, 2, 1, 500, 500);
         x.assign(0, 2, 2, 1, 500, 500);
         is("7: the first advance", x.advance(0, 1), 1);
@@ -426,7 +426,7 @@ public final class PromisesTest {
     // ---- promises 8 to 14
 
     private static void claims() {
-        RoyalTree x = withOneWork(2);
+        House x = withOneWork(2);
         x.addWork(1000);
         int before = radio(x, 10, 9);
         int from = radio(x, 10, 10);
@@ -446,7 +446,7 @@ public final class PromisesTest {
         refused("8: share 101", ARGUMENT, y -> y.claim(0, 0, 101, 0));
         refused("8: day -1", ARGUMENT, y -> y.claim(0, 0, 1, -1));
         refused("8: day 1000", ARGUMENT, y -> y.claim(0, 0, 1, 1000));
-        Consumer<RoyalTree> full = y -> {
+        Consumer<House> full = y -> {
             fillHouse(y);
             for (int i = 1; i < 20; i++) {
                 y.claim(1, 1, 1, 999);
@@ -457,7 +457,7 @@ public final class PromisesTest {
     }
 
     private static void decisions() {
-        RoyalTree x = withOneWork(3);
+        House x = withOneWork(3);
         int use = radio(x, 10, 20);
         x.period();
         int claim = x.claim(0, 1, 30, 10);
@@ -475,17 +475,17 @@ public final class PromisesTest {
         is("9: and the rest", x.gets(use, 0), 70);
         x.setShare(0, 1, 6, 10);
         is("9: what is set later counts", x.shareOn(0, 1, 999), 6);
-        RoyalTree worse = withOneWork(2);
+        House worse = withOneWork(2);
         radio(worse, 10, 20);
         worse.period();
         worse.claim(0, 1, 30, 21);
         is("9: a later claim takes nothing", worse.decide(0, true), false);
-        RoyalTree less = taxedByUses(0, 1);
+        House less = taxedByUses(0, 1);
         is("9: a hand may have less, as taxes are cut", less.decide(0, false), true);
         is("21: withheld of 2", less.tax(1), 1);
         is("9: and so may the lowest one", taxedByUses(1, 0).decide(0, false), true);
         is("9: it need not", taxedByUses(1, 0).decide(0, true), false);
-        RoyalTree owing = withOneWork(2);
+        House owing = withOneWork(2);
         owing.assign(0, 1, 0, 1, 0, 0);
         owing.advance(0, 500);
         owing.claim(0, 1, 1, 0);
@@ -506,8 +506,8 @@ public final class PromisesTest {
      * A hand with tax 50 is owed 2 by a debtor, who keeps 1 by each of two uses of work 1, so that it gets 1 and 1 and
      * pays no tax; once a claim on work 0 falls, whose use was told first and brings 2, it gets 2 at once and pays 1.
      */
-    private static RoyalTree taxedByUses(int debtor, int taxed) {
-        RoyalTree x = new RoyalTree();
+    private static House taxedByUses(int debtor, int taxed) {
+        House x = new House();
         x.addHand(false, taxed == 0 ? 50 : 0);
         x.addHand(false, taxed == 0 ? 0 : 50);
         for (int work = 0; work < 2; work++) {
@@ -529,7 +529,7 @@ public final class PromisesTest {
     }
 
     private static void tariffs() {
-        RoyalTree x = withOneWork(1);
+        House x = withOneWork(1);
         for (char kind : new char[] {'r', 'c', 's'}) {
             for (int land = 0; land < 3; land++) {
                 is("10: ten at first", x.tariff(kind, land, kind + land), 10);
@@ -551,7 +551,7 @@ public final class PromisesTest {
     }
 
     private static void usesTold() {
-        RoyalTree x = withOneWork(1);
+        House x = withOneWork(1);
         for (int i = 0; i < 60; i++) {
             is("11: the number of a use", x.use('r', i % 3, i == 0 ? 0 : i == 1 ? MAX : words(1), 1, 999 * (i % 2)), i);
             is("31: the number of uses", x.uses(), i + 1);
@@ -567,7 +567,7 @@ public final class PromisesTest {
         refused("11: text -1", ARGUMENT, y -> y.use('r', 0, -1, 1, 0));
         refused("11: amount 0", ARGUMENT, y -> y.use('r', 0, 1, 0, 0));
         refused("11: amount 1000001", ARGUMENT, y -> y.use('r', 0, 1, 1000001, 0));
-        Consumer<RoyalTree> full = y -> {
+        Consumer<House> full = y -> {
             fillHouse(y);
             for (int i = 3; i < 60; i++) {
                 y.use('r', 0, 1, 1, 0);
@@ -578,7 +578,7 @@ public final class PromisesTest {
     }
 
     private static void titles() {
-        RoyalTree x = new RoyalTree();
+        House x = new House();
         x.addWork(1000);
         x.addWork(1000);
         x.use('r', 0, words(1, 2), 1, 0);
@@ -596,7 +596,7 @@ public final class PromisesTest {
         refused("12: work -1", INDEX, y -> y.nameOf(-1, 1));
         refused("12: text -1", ARGUMENT, y -> y.nameOf(0, -1));
         refused("12: text at the least int", ARGUMENT, y -> y.nameOf(0, MIN));
-        Consumer<RoyalTree> full = y -> {
+        Consumer<House> full = y -> {
             fillHouse(y);
             y.nameOf(0, 7);
             y.nameOf(0, 7);
@@ -606,7 +606,7 @@ public final class PromisesTest {
     }
 
     private static void matching() {
-        RoyalTree x = new RoyalTree();
+        House x = new House();
         for (int i = 0; i < 3; i++) {
             x.addWork(1000);
         }
@@ -628,7 +628,7 @@ public final class PromisesTest {
     }
 
     private static void likeness() {
-        RoyalTree x = new RoyalTree();
+        House x = new House();
         x.addWork(1000);
         x.addWork(1000);
         int use = x.use('r', 0, words(7, 7, 8), 1, 0);
@@ -658,7 +658,7 @@ public final class PromisesTest {
     // ---- promises 15 to 22
 
     private static void gross() {
-        RoyalTree x = withOneWork(1);
+        House x = withOneWork(1);
         is("15: minutes", x.gross(x.use('r', 0, 1, 7, 0)), 70);
         is("15: takings, cut", x.gross(x.use('c', 0, 1, 1239, 0)), 123);
         is("15: streams, cut", x.gross(x.use('s', 0, 1, 1299, 0)), 12);
@@ -674,7 +674,7 @@ public final class PromisesTest {
     }
 
     private static void sharesOfUses() {
-        RoyalTree x = withHands(3);
+        House x = withHands(3);
         x.addWork(1000);
         x.nameOf(0, words(1));
         x.setShare(0, 0, 33, 0);
@@ -701,7 +701,7 @@ public final class PromisesTest {
     }
 
     private static void heldAndOpen() {
-        RoyalTree x = withHands(2);
+        House x = withHands(2);
         x.addHand(true, 0);
         x.addWork(20);
         x.addWork(1000);
@@ -744,7 +744,7 @@ public final class PromisesTest {
     }
 
     private static void gets() {
-        RoyalTree x = withOneWork(2);
+        House x = withOneWork(2);
         x.addHand(true, 0);
         int use = radio(x, 1, 0);
         x.assign(0, 1, 0, 35, 0, 999);
@@ -766,7 +766,7 @@ public final class PromisesTest {
     }
 
     private static void accounts() {
-        RoyalTree x = new RoyalTree();
+        House x = new House();
         x.addHand(false, 33);
         x.addWork(1000);
         x.setShare(0, 0, 100, 0);
@@ -793,7 +793,7 @@ public final class PromisesTest {
     }
 
     private static void recouping() {
-        RoyalTree x = new RoyalTree();
+        House x = new House();
         x.addHand(false, 10);
         x.addHand(false, 50);
         x.addHand(true, 20);
@@ -825,7 +825,7 @@ public final class PromisesTest {
     }
 
     private static void notRecouped() {
-        RoyalTree x = withOneWork(2);
+        House x = withOneWork(2);
         x.assign(0, 1, 0, 50, 0, 999);
         is("22: without advances", x.notRecouped(0), 0);
         x.advance(0, 70);
@@ -842,7 +842,7 @@ public final class PromisesTest {
     // ---- promises 23 to 29
 
     private static void periods() {
-        RoyalTree x = withOneWork(1);
+        House x = withOneWork(1);
         radio(x, 1, 999);
         x.use('r', 0, words(50), 1, 0);
         CHECK.refused("24: not paid", NO_ELEMENT, () -> x.paidIn(0));
@@ -858,21 +858,21 @@ public final class PromisesTest {
             is("23: up to thirty", x.period(), 0);
         }
         CHECK.refused("23: a 31st period", STATE, x::period);
-        Consumer<RoyalTree> full = y -> {
+        Consumer<House> full = y -> {
             fillHouse(y);
             for (int i = 1; i < 30; i++) {
                 y.period();
             }
             y.use('r', 0, words(1, 2), 5, 0);
         };
-        refused("23: a 31st period", full, STATE, RoyalTree::period);
+        refused("23: a 31st period", full, STATE, House::period);
         refused("24: not paid", NO_ELEMENT, y -> y.paidIn(2));
         refused("24: no such use", INDEX, y -> y.paidIn(3));
         refused("24: use -1", INDEX, y -> y.paidIn(-1));
     }
 
     private static void statements() {
-        RoyalTree x = withOneWork(2);
+        House x = withOneWork(2);
         radio(x, 10, 0);
         x.period();
         radio(x, 1, 0);
@@ -898,7 +898,7 @@ public final class PromisesTest {
     }
 
     private static void chains() {
-        RoyalTree x = withOneWork(5);
+        House x = withOneWork(5);
         x.assign(1, 3, 0, 50, 0, 999);
         x.assign(0, 2, 0, 50, 0, 999);
         x.assign(0, 1, 0, 50, 0, 999);
@@ -917,14 +917,14 @@ public final class PromisesTest {
         x.setShare(0, 0, 0, 0);
         is("26: of those that have a share", x.chain(use, 3), 2);
         is("27: another first hand", x.chainAt(use, 3, 0), 1);
-        RoyalTree tiny = withOneWork(4);
+        House tiny = withOneWork(4);
         tiny.assign(0, 1, 0, 10, 0, 999);
         tiny.assign(1, 2, 0, 50, 0, 999);
         tiny.assign(0, 2, 0, 50, 0, 999);
         tiny.tariff('r', 0, 1);
         is("26: a way on which it keeps nothing is none", tiny.chain(radio(tiny, 10, 0), 2), 2);
         longestChain();
-        Consumer<RoyalTree> handsOnAll = y -> {
+        Consumer<House> handsOnAll = y -> {
             fillHouse(y);
             y.assign(1, 2, 1, 100, 0, 999);
             y.nameOf(1, 1);
@@ -948,7 +948,7 @@ public final class PromisesTest {
 
     /** Twelve contracts one behind the other, between the highest hands. */
     private static void longestChain() {
-        RoyalTree x = withHands(16);
+        House x = withHands(16);
         x.addWork(1000);
         x.nameOf(0, words(1));
         x.setShare(0, 15, 100, 0);
@@ -965,7 +965,7 @@ public final class PromisesTest {
     }
 
     private static void sharesOnDays() {
-        RoyalTree x = withHands(2);
+        House x = withHands(2);
         x.addWork(1000);
         x.setShare(0, 0, 40, 10);
         x.setShare(0, 0, 60, 20);
@@ -986,7 +986,7 @@ public final class PromisesTest {
     }
 
     private static void disputes() {
-        RoyalTree x = withHands(2);
+        House x = withHands(2);
         x.addWork(10);
         x.addWork(1000);
         x.setShare(0, 0, 100, 0);
@@ -1014,7 +1014,7 @@ public final class PromisesTest {
     // ---- promises 30 to 36
 
     private static void figures() {
-        RoyalTree x = filled();
+        House x = filled();
         is("30: works", x.works(), 3);
         is("31: uses", x.uses(), 3);
         is("32: the pot, paid or not", x.pot(), 160 + 400 + 50);
@@ -1027,7 +1027,7 @@ public final class PromisesTest {
     }
 
     private static void bits() {
-        RoyalTree x = withOneWork(1);
+        House x = withOneWork(1);
         CHECK.refused("34: no uses", ArithmeticException.class, x::knownBits);
         CHECK.refused("35: no uses", ArithmeticException.class, x::meanBits);
         long sum = 0;
@@ -1042,26 +1042,26 @@ public final class PromisesTest {
             is("34: known of " + (i + 1), x.knownBits(), Float.floatToIntBits((float) known / (float) (i + 1)));
             is("35: mean of " + (i + 1), x.meanBits(), Double.doubleToLongBits((double) sum / (double) (i + 1)));
         }
-        RoyalTree little = withOneWork(1);
+        House little = withOneWork(1);
         little.use('s', 0, words(40), 100, 0);
         for (int i = 1; i <= 59; i++) {
             is("35: one coin of " + i + " uses", little.meanBits(), Double.doubleToLongBits(1.0 / i));
             little.use('s', 0, words(40), 99, 0);
         }
-        RoyalTree all = withOneWork(1);
+        House all = withOneWork(1);
         radio(all, 1, 0);
         is("34: all are known", all.knownBits(), 0x3f800000);
         is("35: ten", all.meanBits(), 0x4024000000000000L);
-        RoyalTree most = withOneWork(1);
+        House most = withOneWork(1);
         most.tariff('r', 0, 1000);
         radio(most, 1000000, 0);
         is("35: the most", most.meanBits(), Double.doubleToLongBits(1e9));
-        refused("34: no uses", y -> y.addWork(5), ArithmeticException.class, RoyalTree::knownBits);
-        refused("35: no uses", y -> y.addWork(5), ArithmeticException.class, RoyalTree::meanBits);
+        refused("34: no uses", y -> y.addWork(5), ArithmeticException.class, House::knownBits);
+        refused("35: no uses", y -> y.addWork(5), ArithmeticException.class, House::meanBits);
     }
 
     private static void soundness() {
-        RoyalTree x = filled();
+        House x = filled();
         is("36: sound", x.isSound(), true);
         x.claim(0, 1, 50, 0);
         is("36: in dispute", x.isSound(), true);
