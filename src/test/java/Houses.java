@@ -2,7 +2,6 @@ import java.util.function.Consumer;
 
 /** The houses on which edges are tried: how they are made, and how much is in them. */
 final class Houses {
-    static final int MIN = Integer.MIN_VALUE;
     static final int MAX = Integer.MAX_VALUE;
 
     /** How a house is made; the counts tell up to which numbers it is worth asking. */

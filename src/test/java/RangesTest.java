@@ -23,7 +23,7 @@ public final class RangesTest {
         void on(House x, int[] n);
     }
 
-    /** A number of a call: what is told of it, a right one, the least and the greatest right one, what a wrong one throws. */
+    /** A number of a call: its name, a right one, the least and the greatest that are taken, what a wrong one throws. */
     private record Argument(String name, int valid, int least, int most, Class<? extends RuntimeException> kind) { }
 
     /** A call: the set-up on which it is taken, and how it is made with numbers. */
